@@ -1025,10 +1025,12 @@ public final class PapersDesk {
             rules.wipe();
             tape.cut();
             token = tape.tokenAt(0);
-            for (int i = 0; i <= MOST_LINES && token != Tape.END && fault == 0; i++) {
-                readLine();
+            for (int i = 0; i <= MOST_LINES && token != Tape.END; i++) {
+                if (!readLine()) {
+                    return fault;
+                }
             }
-            return fault;
+            return 0;
         }
 
         private void step() {

@@ -75,6 +75,13 @@ public final class RulesTest {
         fault("ground 1 when 1 <= 2;", 1 + 16 * 17);
         fault("ground 1 when 1 2;", 1 + 16 * 16);
         fault("ground 1 when ageage;", 1 + 16 * 14);
+        fault("ground 1 when agez;", 1 + 16 * 14);
+        fault("ground 1 when aage;", 1 + 16 * 14);
+        fault("ground 1 when tay;", 1 + 16 * 14);
+        fault("ground 1 when dax;", 1 + 16 * 14);
+        fault("ground 1 when thirdsss;", 1 + 16 * 14);
+        fault("ground 1 when thirdssss;", 1 + 16 * 14);
+        fault("ground 1 when age1;", 1 + 16 * 17);
         fault("ground 1 when day folder;", 1 + 16 * 18);
         fault("ground 1 when (1)<(2)=(3);", 1 + 16 * 21);
         fault("ground 1 when ((1)<(2))=(3);", 0);
@@ -135,6 +142,8 @@ public final class RulesTest {
         fault("ground 1 when ((((1))))+((((1))))and((((1))))<((((1))));", 0);
         fault("ground 1 when ((((1+(", 1 + 16 * 21);
         fault("ground 1 when ((((1+(1", 5 + 16 * 21);
+        fault("ground 1 when ((((1<(1", 5 + 16 * 21);
+        fault("ground 1 when ((((1 and (1", 5 + 16 * 25);
     }
 
     private static void leastKind() {
@@ -232,6 +241,35 @@ public final class RulesTest {
         holds("(1<(2<(3<(4-3))))", false);
         holds("0 and (1=1 and (2<2+(3=3 and (4+5=9))))", false);
         holds("1=1 and (0<1+(1 and (2=1+(0<1 and 3=3))))", true);
+        String deep = "1 and 1=1+(1 and 1=1+(1 and 1=1+(1 and 1=1+(1 and 1=1+";
+        holds(deep + "1))))", false);
+        holds(deep + "0))))", true);
+    }
+
+    /** Each ground blackens one word of a paper, and only its own. */
+    private static void eachGround() {
+        for (int ground = 0; ground <= 9; ground++) {
+            PapersDesk desk = new PapersDesk();
+            for (int paper = 0; paper <= 9; paper++) {
+                Checks.paper(desk, 0, 0, 1 + paper);
+                desk.black(paper, 0, 0, paper);
+            }
+            Checks.rules(desk, "ground " + ground + " when 1;");
+            for (int paper = 0; paper <= 9; paper++) {
+                CHECK.same("ground " + paper + " of " + ground, desk.read(paper, 3), paper == ground ? 1 : 0);
+            }
+        }
+    }
+
+    private static void oneAfterTheOther() {
+        PapersDesk desk = desk();
+        for (int i = 0; i < 6; i++) {
+            int holds = i / 2 % 2;
+            Checks.rules(desk, "ground 5 when " + (1 - holds) + "; ground 6 when " + holds + ";");
+            CHECK.same("ground 6 when " + holds, desk.read(0, 3), holds);
+        }
+        Checks.rules(desk, "ground 6 when 0; ground 6 when 1; ground 6 when 0;");
+        CHECK.same("any line", desk.read(0, 3), 1);
     }
 
     private static void papers() {
@@ -243,6 +281,8 @@ public final class RulesTest {
         holds("thirds=3", true);
         holds("age+day+folder+pages+thirds=28", true);
         holds("folder-thirds", false);
+        eachGround();
+        oneAfterTheOther();
         PapersDesk desk = desk();
         Checks.rules(desk, "ground 6 when pages = 3; ground 6 when age = 10; ground 5 when 1;");
         CHECK.same("none holds", desk.read(0, 3), 0);

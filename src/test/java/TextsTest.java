@@ -62,6 +62,7 @@ public final class TextsTest {
         for (int place = 0; place < 4; place++) {
             desk.black(0, place, place, 1);
         }
+        clearWithGrounds();
         CHECK.no("text 1", desk.clear(1, 0));
         CHECK.no("text -1", desk.clear(-1, 0));
         CHECK.no("span 4", desk.clear(0, 4));
@@ -76,6 +77,19 @@ public final class TextsTest {
         CHECK.yes("span 0", desk.clear(0, 0));
         shown(desk, 0, 1, 2, 3, 4);
         CHECK.no("none is there", desk.clear(0, 0));
+    }
+
+    private static void clearWithGrounds() {
+        PapersDesk desk = deskWithWords(1, 2, 3);
+        Checks.rules(desk, "ground 2 when 1;");
+        desk.black(0, 0, 0, 1);
+        desk.black(0, 1, 1, 2);
+        desk.black(0, 2, 2, 3);
+        shown(desk, 0, 1, 0, 3);
+        CHECK.yes("the span of ground 1", desk.clear(0, 0));
+        shown(desk, 0, 1, 0, 3);
+        CHECK.yes("the span of ground 2", desk.clear(0, 0));
+        shown(desk, 0, 1, 2, 3);
     }
 
     private static void shown(PapersDesk desk, int page, int... words) {
