@@ -12,6 +12,7 @@ public final class AsksTest {
         dueWithStops();
         dueAtTheEnd();
         found();
+        foundDeepDown();
         foundWords();
         finds();
         CHECK.end();
@@ -231,6 +232,19 @@ public final class AsksTest {
         CHECK.same("found(-1)", desk.found(-1), -1);
         Checks.paper(desk, 5, 0, 1);
         CHECK.same("a new one in folder 5", desk.found(4), 3);
+    }
+
+    private static void foundDeepDown() {
+        CHECK.part("promise 18, twenty folders within one another");
+        PapersDesk desk = new PapersDesk();
+        for (int folder = 1; folder < 20; folder++) {
+            desk.folder(folder - 1);
+        }
+        Checks.paper(desk, 19, 0, 1);
+        CHECK.same("from the outermost", desk.found(desk.ask(0, 0, 0)), 1);
+        CHECK.same("from the innermost", desk.found(desk.ask(19, 0, 0)), 1);
+        Checks.paper(desk, 0, 0, 1);
+        CHECK.same("the outermost's own is not in the next", desk.found(desk.ask(1, 0, 0)), 1);
     }
 
     private static void foundWords() {

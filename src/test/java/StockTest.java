@@ -174,6 +174,14 @@ public final class StockTest {
             CHECK.same("read(" + i + ", 1)", desk.read(i, 1), due[i]);
         }
         CHECK.same("count(3)", desk.count(3), 4);
+        int[] twelve = {1, 2, 3, 4, 5, 6, 7, 8, 9, 10, 11, 12};
+        Checks.page(desk, 0, twelve);
+        Checks.page(desk, 1, twelve);
+        twelve[11] = 13;
+        Checks.page(desk, 0, twelve);
+        CHECK.same("twelve words", desk.read(6, 1), 4);
+        CHECK.same("the same twelve", desk.read(7, 1), 4);
+        CHECK.same("another last one", desk.read(8, 1), 5);
     }
 
     private static void third() {
