@@ -1,7 +1,23 @@
+import java.lang.reflect.InvocationTargetException;
+import java.lang.reflect.Method;
+import java.lang.reflect.Modifier;
+import java.util.Arrays;
+import java.util.Comparator;
+import java.util.List;
+import java.util.Locale;
 import java.util.NoSuchElementException;
+import java.util.function.Consumer;
+import java.util.function.IntPredicate;
+import java.util.function.IntUnaryOperator;
+import java.util.function.Supplier;
 
-/** What the tests share: comparing answers, telling texts to a desk, and ending with the right exit code. */
+/** What the tests share: running them, comparing answers, and ending with the right exit code. */
 final class Checks {
+    static final int MIN = Integer.MIN_VALUE;
+    static final int MAX = Integer.MAX_VALUE;
+
+    private static final int NUMBERED = "promise00".length();
+
     private int wrong = 0;
     private int made = 0;
     private String part = "";
@@ -10,11 +26,45 @@ final class Checks {
         part = name;
     }
 
+    /**
+     * Runs each test of a class PromiseNN..Test: its methods that are not private. They are found by their names, so
+     * that none can be forgotten; one that does not bear its promise's number, or checks nothing, is a fault.
+     */
+    void runAll(Class<?> tests) throws IllegalAccessException {
+        String number = tests.getName().substring(0, NUMBERED).toLowerCase(Locale.ROOT);
+        Method[] methods = tests.getDeclaredMethods();
+        Arrays.sort(methods, Comparator.comparing(Method::getName));
+        for (Method method : methods) {
+            if (!Modifier.isPrivate(method.getModifiers()) && !method.getName().equals("main")) {
+                part(method.getName());
+                int before = made;
+                run(method);
+                if (made == before || !part.startsWith(number)) {
+                    fail("checks nothing, or is not named for " + number);
+                }
+            }
+        }
+        end();
+    }
+
+    private void run(Method test) throws IllegalAccessException {
+        try {
+            test.invoke(null);
+        } catch (InvocationTargetException thrown) {
+            thrown.getCause().printStackTrace(System.out);
+            fail("ended with " + thrown.getCause());
+        }
+    }
+
+    private void fail(String what) {
+        wrong++;
+        System.out.println(part + ": " + what);
+    }
+
     void same(String call, long got, long want) {
         made++;
         if (got != want) {
-            wrong++;
-            System.out.println(part + ": " + call + " answered " + got + ", due is " + want);
+            fail(call + " answered " + got + ", due is " + want);
         }
     }
 
@@ -26,63 +76,70 @@ final class Checks {
         same(call, got ? 1 : 0, 0);
     }
 
-    void lookThrows(PapersDesk desk, int ask, int what) {
+    /** The call answers NONE for each of these. */
+    void none(String call, IntUnaryOperator answer, int... arguments) {
+        for (int argument : arguments) {
+            same(call + " of " + argument, answer.applyAsInt(argument), -1);
+        }
+    }
+
+    /** The call answers false for each of these. */
+    void never(String call, IntPredicate answer, int... arguments) {
+        for (int argument : arguments) {
+            no(call + " of " + argument, answer.test(argument));
+        }
+    }
+
+    /** Each page of a desk's gifts from this one on, and that there are no more. */
+    void gave(Desk desk, int from, int... pages) {
+        same("count(6)", desk.count(6), from + pages.length);
+        for (int i = 0; i < pages.length; i++) {
+            same("given(" + (from + i) + ", 1)", desk.given(from + i, 1), pages[i]);
+        }
+    }
+
+    /** The words of a page as they are now, 0 for black ones. */
+    void shows(Desk desk, int page, int... words) {
+        int black = 0;
+        for (int i = 0; i < words.length; i++) {
+            same("read(" + page + ", " + (4 + i) + ")", desk.read(page, 4 + i), words[i]);
+            black += words[i] == 0 ? 1 : 0;
+        }
+        same("read(" + page + ", 3)", desk.read(page, 3), black);
+    }
+
+    /** Exactly the exception that the document names, not one below it. */
+    void lookThrows(Desk desk, int ask, int what) {
         made++;
         try {
             int got = desk.look(ask, what);
-            wrong++;
-            System.out.println(part + ": look(" + ask + ", " + what + ") answered " + got
-                    + ", due is NoSuchElementException");
-        } catch (NoSuchElementException due) {
-            return;
+            fail("look(" + ask + ", " + what + ") answered " + got + ", due is NoSuchElementException");
+        } catch (NoSuchElementException thrown) {
+            same("the exception's class", thrown.getClass() == NoSuchElementException.class ? 1 : 0, 1);
         }
     }
 
-    /** Puts eight signs of a text into a long, the first one highest; 0 where the text is over. */
-    static long eight(String text, int from) {
-        long packed = 0;
-        for (int i = from; i < from + 8; i++) {
-            packed = packed << 8 | (i < text.length() ? text.charAt(i) & 255 : 0);
-        }
-        return packed;
-    }
-
-    static int feed(PapersDesk desk, String text) {
-        int signs = desk.count(9);
-        for (int i = 0; i < text.length(); i += 24) {
-            signs = desk.feed(eight(text, i), eight(text, i + 8), eight(text, i + 16));
-        }
-        return signs;
-    }
-
-    static int rules(PapersDesk desk, String text) {
-        feed(desk, text);
-        return desk.rules();
-    }
-
-    static void tell(PapersDesk desk, int... words) {
-        for (int word : words) {
-            desk.word(word);
+    /** These calls are refused, so a desk on which they are made goes on like one on which they are not. */
+    void unchanged(Supplier<Desk> maker, Consumer<Desk> refusedCalls) {
+        Desk touched = maker.get();
+        refusedCalls.accept(touched);
+        List<String> got = touched.snapshot();
+        List<String> want = maker.get().snapshot();
+        same("answers of the snapshot", got.size(), want.size());
+        for (int i = 0; i < Math.min(got.size(), want.size()); i++) {
+            made++;
+            if (!got.get(i).equals(want.get(i))) {
+                fail("behind refused calls " + got.get(i) + ", due is " + want.get(i));
+            }
         }
     }
 
-    static int paper(PapersDesk desk, int folder, int day, int... words) {
-        tell(desk, words);
-        return desk.paper(folder, day);
-    }
-
-    static int page(PapersDesk desk, int paper, int... words) {
-        tell(desk, words);
-        return desk.page(paper);
-    }
-
-    static int ask(PapersDesk desk, int folder, int from, int to, int... words) {
-        tell(desk, words);
-        return desk.ask(folder, from, to);
+    void unchanged(Consumer<Desk> refusedCalls) {
+        unchanged(Desk::busy, refusedCalls);
     }
 
     void end() {
-        System.out.println(wrong == 0 ? made + " answers are as due" : wrong + " of " + made + " answers are not as due");
+        System.out.println(wrong == 0 ? made + " answers are as due" : wrong + " faults among " + made + " answers");
         if (wrong != 0 || made == 0) {
             System.exit(1);
         }

@@ -88,9 +88,9 @@ public final class RandomRunsTest {
 
     private void feed(String text) {
         for (int i = 0; i < text.length(); i += 24) {
-            long a = Checks.eight(text, i);
-            long b = Checks.eight(text, i + 8);
-            long c = Checks.eight(text, i + 16);
+            long a = Desk.eight(text, i);
+            long b = Desk.eight(text, i + 8);
+            long c = Desk.eight(text, i + 16);
             same("feed of '" + text + "' at " + i, desk.feed(a, b, c), plain.feed(a, b, c));
         }
     }
