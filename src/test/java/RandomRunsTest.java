@@ -57,7 +57,10 @@ public final class RandomRunsTest {
         if (kind == 1) {
             return random.nextInt();
         }
-        return kind == 2 || there == 0 ? there : up(there);
+        if (kind == 2) {
+            return up(2) == 0 ? Integer.MIN_VALUE : Integer.MAX_VALUE;
+        }
+        return kind == 3 || there == 0 ? there : up(there);
     }
 
     /** Makes a desk that has much, so that its limits come near. */
