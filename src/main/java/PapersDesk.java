@@ -42,8 +42,6 @@ public final class PapersDesk {
     private final Tape tape = new Tape();
     private Rules inForce = new Rules();
     private Rules draft = new Rules();
-    private final boolean[] fitting = new boolean[MOST_PAPERS];
-    private final boolean[] seenTexts = new boolean[MOST_PAGES];
 
     public PapersDesk() {
         folderIn[0] = NONE;
@@ -217,13 +215,13 @@ public final class PapersDesk {
 
     public int finds(int ask, int i) {
         Ask asked = askAt(ask);
-        if (asked == null || i < 0 || i >= papers.size()) {
+        if (asked == null) {
             return NONE;
         }
         markFitting(asked);
         int before = 0;
-        for (int p = 0; p < papers.size() && p < MOST_PAPERS; p++) {
-            if (fitting[p]) {
+        for (int p = 0; p < papers.size(); p++) {
+            if (papers.get(p).fits) {
                 if (before == i) {
                     return p;
                 }
@@ -419,9 +417,10 @@ public final class PapersDesk {
     /** Notes for each paper whether it fits, and tells how many do. */
     private int markFitting(Ask asked) {
         int fits = 0;
-        for (int p = 0; p < papers.size() && p < MOST_PAPERS; p++) {
-            fitting[p] = isFitting(papers.get(p), asked);
-            if (fitting[p]) {
+        for (int i = 0; i < papers.size(); i++) {
+            Paper paper = papers.get(i);
+            paper.fits = isFitting(paper, asked);
+            if (paper.fits) {
                 fits++;
             }
         }
@@ -460,10 +459,10 @@ public final class PapersDesk {
         int done = 0;
         for (int i = 0; i < pages.size() && done < most; i++) {
             Page page = pages.get(i);
-            boolean inTurn = repeated == null || repeated.gaveText[page.text.number];
+            boolean inTurn = repeated == null || page.text.wasGivenFor(repeated);
             if (inTurn && isLeft(page, asked) && isReady(page)) {
                 gifts.add(new Gift(asked.number, page, now, inForce.groundsHolding(page.paper, now)));
-                asked.gaveText[page.text.number] = true;
+                page.text.noteGivenFor(asked);
                 asked.pagesGiven++;
                 done++;
             }
@@ -472,7 +471,7 @@ public final class PapersDesk {
     }
 
     private boolean isLeft(Page page, Ask asked) {
-        return fitting[page.paper.number] && !asked.gaveText[page.text.number];
+        return page.paper.fits && !page.text.wasGivenFor(asked);
     }
 
     private boolean isReady(Page page) {
@@ -481,14 +480,14 @@ public final class PapersDesk {
 
     private int countLeft(Ask asked, boolean onlyUnjudged) {
         markFitting(asked);
-        for (int i = 0; i < MOST_PAGES; i++) {
-            seenTexts[i] = false;
+        for (int i = 0; i < texts.size(); i++) {
+            texts.get(i).seen = false;
         }
         int left = 0;
         for (int i = 0; i < pages.size(); i++) {
             Page page = pages.get(i);
-            if (isLeft(page, asked) && !seenTexts[page.text.number]) {
-                seenTexts[page.text.number] = true;
+            if (isLeft(page, asked) && !page.text.seen) {
+                page.text.seen = true;
                 if (!onlyUnjudged || !page.text.judged) {
                     left++;
                 }
@@ -502,6 +501,10 @@ public final class PapersDesk {
         final int number;
         final int[] words;
         boolean judged = false;
+        /** A mark for those who go through pages and want each text once; they take it off themselves. */
+        boolean seen = false;
+        /** One bit an ask. */
+        private int givenFor = 0;
         int spans = 0;
         private final int[] spanFrom = new int[MOST_SPANS];
         private final int[] spanTo = new int[MOST_SPANS];
@@ -522,6 +525,14 @@ public final class PapersDesk {
                 }
             }
             return true;
+        }
+
+        boolean wasGivenFor(Ask asked) {
+            return (givenFor >> asked.number & 1) != 0;
+        }
+
+        void noteGivenFor(Ask asked) {
+            givenFor |= 1 << asked.number;
         }
 
         void addSpan(int from, int to, int ground) {
@@ -585,6 +596,8 @@ public final class PapersDesk {
         final ArrayList<Page> pages = new ArrayList<>();
         /** One bit a person. */
         int thirds = 0;
+        /** Whether it fits the ask that was looked at last. */
+        boolean fits = false;
 
         Paper(int number, int folder, int day) {
             this.number = number;
@@ -623,7 +636,6 @@ public final class PapersDesk {
         final int[] words = new int[MOST_ASK_WORDS];
         int wordCount = 0;
         int repeats = NONE;
-        final boolean[] gaveText = new boolean[MOST_PAGES];
         int pagesGiven = 0;
         boolean stopped = false;
         /** Days up to this one are counted or left out for good; once all working days are over, the due day. */
